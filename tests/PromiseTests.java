@@ -690,6 +690,20 @@ public final class PromiseTests {
         same("25 three can", ring.canPay() ? 1 : 0, 1);
         ring.spot();
         refused("25 not fast", ring, STATE, ring::canPay);
+        // Three edges carry three coins at a time, or none.
+        Topplemoor thick = spots(1);
+        thick.edge(0, SINK, 3);
+        for (int owed = 1; owed <= 6; owed++) {
+            thick.pay(0, -1);
+            thick.pay(SINK, 1);
+            same("25 owed " + owed, thick.canPay() ? 1 : 0, owed % 3 == 0 ? 1 : 0);
+        }
+        thick.lend(0, true);
+        thick.lend(0, true);
+        thick.lend(0, true);
+        same("25 lent to and fro", thick.canPay() ? 1 : 0, 1);
+        thick.pay(SINK, -1);
+        same("25 a coin too few", thick.canPay() ? 1 : 0, 0);
         Topplemoor empty = new Topplemoor();
         refused("25 without spots", empty, STATE, empty::canPay);
     }
@@ -775,6 +789,10 @@ public final class PromiseTests {
         put(moor, 12, 3);
         moor.keep();
         same("27 fast", moor.digest(), digestByHand(moor));
+        moor.sweep();
+        same("27 with a fire", moor.fire(), 21);
+        same("27 with a fire", moor.digest(), digestByHand(moor));
+        put(moor, 12, 3);
         moor.settle();
         moor.keep();
         moor.pay(0, -4);
@@ -782,6 +800,16 @@ public final class PromiseTests {
         moor.walk(0);
         same("27 lived", moor.digest(), digestByHand(moor));
         same("27 changes nothing", moor.digest(), digestByHand(moor));
+        Topplemoor six = path(6);
+        put(six, 1, 0, 7, 0, 2, 99);
+        same("27 six spots", six.digest(), digestByHand(six));
+        six.pay(5, 4);
+        six.edge(5, 1, 3);
+        six.lend(1, true);
+        six.settle();
+        six.keep();
+        six.walk(0);
+        same("27 six spots, lived", six.digest(), digestByHand(six));
     }
 
     private static void sand() {
