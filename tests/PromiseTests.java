@@ -1,88 +1,5 @@
 /** Each promise of the document by itself: ordinary inputs, edges, wrong inputs, and which exception comes first. */
-public final class PromiseTests {
-    private static final String INDEX = "IndexOutOfBoundsException";
-    private static final String ARGUMENT = "IllegalArgumentException";
-    private static final String STATE = "IllegalStateException";
-    private static final int SINK = 6;
-    private static final int NONE = -1;
-    private static int checks = 0;
-    private static int wrong = 0;
-
-    private interface Call {
-        void run();
-    }
-
-    private static void same(String what, long got, long due) {
-        checks++;
-        if (got != due) {
-            wrong++;
-            System.out.println(what + " answered " + got + ", due is " + due);
-        }
-    }
-
-    private static void sameDouble(String what, double got, double due) {
-        checks++;
-        if (got != due) {
-            wrong++;
-            System.out.println(what + " answered " + got + ", due is " + due);
-        }
-    }
-
-    /** The class of the exception is compared exactly, so that none that the machine throws passes for it. */
-    private static void refused(String what, Topplemoor moor, String due, Call call) {
-        long before = moor.digest();
-        String got = "nothing";
-        try {
-            call.run();
-        } catch (RuntimeException e) {
-            got = e.getClass().getSimpleName();
-        }
-        checks++;
-        if (!got.equals(due)) {
-            wrong++;
-            System.out.println(what + " threw " + got + ", due is " + due);
-        }
-        same(what + " leaves the digest", moor.digest(), before);
-    }
-
-    private static Topplemoor spots(int many) {
-        Topplemoor moor = new Topplemoor();
-        for (int spot = 0; spot < many; spot++) {
-            moor.spot();
-        }
-        return moor;
-    }
-
-    /** 0 - 1 - 2 - .. - SINK, one EDGE each. */
-    private static Topplemoor path(int many) {
-        Topplemoor moor = spots(many);
-        for (int spot = 0; spot < many; spot++) {
-            moor.edge(spot, spot + 1 < many ? spot + 1 : SINK, 1);
-        }
-        return moor;
-    }
-
-    /** SPOTS 0 and 1 and the SINK, one EDGE between any two: the neutral heap is 1, 1; three trees. */
-    private static Topplemoor triangle() {
-        Topplemoor moor = path(2);
-        moor.edge(0, SINK, 1);
-        return moor;
-    }
-
-    private static void put(Topplemoor moor, int... grains) {
-        for (int spot = 0; spot < grains.length; spot++) {
-            for (int left = grains[spot]; left > 0; left -= 40) {
-                moor.drop(spot, Math.min(left, 40));
-            }
-        }
-    }
-
-    private static void lies(String what, Topplemoor moor, int... grains) {
-        for (int spot = 0; spot < grains.length; spot++) {
-            same(what + ": grains of " + spot, moor.ofSpot(spot, 0), grains[spot]);
-        }
-    }
-
+public final class PromiseTests extends Checks {
     private static void promise1NewObject() {
         Topplemoor moor = new Topplemoor();
         for (int what = 0; what <= 12; what++) {
@@ -279,10 +196,9 @@ public final class PromiseTests {
         moor.keep();
         moor.sweep();
         put(moor, 49);
-        Topplemoor full = moor;
-        same("8 up to 99", full.add(0), 33);
-        put(full, 50);
-        refused("8 above 99", full, STATE, () -> full.add(0));
+        same("8 up to 99", moor.add(0), 33);
+        put(moor, 50);
+        refused("8 above 99", moor, STATE, () -> moor.add(0));
         Topplemoor pushed = spots(2);
         pushed.keep();
         pushed.edge(0, 1, 3);
@@ -489,13 +405,7 @@ public final class PromiseTests {
         Topplemoor hole = spots(2);
         hole.edge(1, SINK, 1);
         same("18 a spot apart, the first one", hole.count(), 0);
-        Topplemoor full = spots(6);
-        for (int one = 0; one < 7; one++) {
-            for (int other = one + 1; other < 7; other++) {
-                full.edge(one, other, 3);
-            }
-        }
-        same("18 all edges", full.count(), 729L * 16807L);
+        same("18 all edges", full().count(), 729L * 16807L);
     }
 
     private static void promise19Density() {
@@ -643,33 +553,13 @@ public final class PromiseTests {
         refused("24 not fast", moor, STATE, moor::order);
     }
 
-    /** Both moors have a cyclic group that the grain on 0 goes through: of 100 heaps, and of 101. */
     private static void promise24TheHundredth() {
-        Topplemoor hundred = spots(4);
-        layFrom0(hundred, 2, 2, 1, 2);
-        layFrom1(hundred, 1, 1, 2);
-        hundred.drop(0, 1);
+        Topplemoor hundred = hundredHeaps();
         same("24 a hundred heaps", hundred.count(), 100);
         same("24 by the 100th time", hundred.order(), 100);
-        Topplemoor more = spots(4);
-        layFrom0(more, 1, 3, 2, 1);
-        layFrom1(more, 2, 1, 1);
-        more.drop(0, 1);
+        Topplemoor more = hundredAndOneHeaps();
         same("24 a heap more", more.count(), 101);
         same("24 not by the 100th time", more.order(), NONE);
-    }
-
-    private static void layFrom0(Topplemoor moor, int to1, int to2, int to3, int toSink) {
-        moor.edge(0, 1, to1);
-        moor.edge(0, 2, to2);
-        moor.edge(0, 3, to3);
-        moor.edge(0, SINK, toSink);
-    }
-
-    private static void layFrom1(Topplemoor moor, int to2, int to3, int toSink) {
-        moor.edge(1, 2, to2);
-        moor.edge(1, 3, to3);
-        moor.edge(1, SINK, toSink);
     }
 
     private static void promise25CanPay() {
@@ -858,9 +748,6 @@ public final class PromiseTests {
         sand();
         moneyAndWhatIsAsked();
         whatWouldBe();
-        System.out.println(checks + " checks, " + wrong + " wrong");
-        if (wrong != 0) {
-            System.exit(1);
-        }
+        end();
     }
 }
