@@ -275,15 +275,11 @@ public final class PromiseBoundaries extends Checks {
         Topplemoor moor = path(6);
         // Each rotor but that of 0 turns from its neighbour before to the one behind.
         same("10 straight on", moor.walk(0), 6);
-        // Each one then sends back to 0 once.
-        int all = 6;
-        for (int round = 0; round < 5; round++) {
-            int before = moor.many(12);
-            int went = moor.walk(5);
-            all += went;
-            same("10 steps of one", moor.many(12) - before, went);
+        for (int round = 1; round <= 5; round++) {
+            // Each one but 0 sends back, and then on: 5 steps to 0, and 6 to the SINK.
+            same("10 back to 0 first", moor.walk(5), 11);
+            same("10 steps ever", moor.many(12), 6 + 11 * round);
         }
-        same("10 steps of all", moor.many(12), all);
     }
 
     /** 11 "if many is not -9 to 9". */
@@ -763,7 +759,7 @@ public final class PromiseBoundaries extends Checks {
             1, 2, 2, 0, 0, 0, 6, 5, 0, 2, 0, 2, 0, 1, 2, 1, 1, 0, 1, 1, -1}));
     }
 
-    /** 27 "if the moor is FAST: isLasting() (1 or 0), SPOT by SPOT: neutral(), would() ...; canPay() (1 or 0), weakest()". */
+    /** 27 "if the moor is FAST: isLasting() (1 or 0), SPOT by SPOT: neutral(), would() ...". */
     private static void p27ifTheMoorIsFast() {
         Topplemoor moor = path(2);
         moor.pay(1, -2);

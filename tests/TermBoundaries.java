@@ -1,6 +1,6 @@
 /** Each sentence of the document's terms that names a boundary case, with a test of its own; the label quotes it. */
 public final class TermBoundaries extends Checks {
-    private static boolean isDue(String due, Checks.Call call) {
+    private static boolean isDue(String due, Call call) {
         return thrownBy(call).equals(due);
     }
 
@@ -331,7 +331,7 @@ public final class TermBoundaries extends Checks {
         }
     }
 
-    /** "each NEIGHBOUR that is a SPOT has so many more as there are EDGES between; what goes to the SINK is SWALLOWED." */
+    /** "each NEIGHBOUR ... has so many more as there are EDGES between; what goes to the SINK is SWALLOWED." */
     private static void toppleGivesAlongEdges() {
         Topplemoor moor = spots(4);
         moor.edge(1, 0, 3);
@@ -724,7 +724,7 @@ public final class TermBoundaries extends Checks {
         places("ROTOR stays", moor, 1, 1, 1, 0);
     }
 
-    /** "turns its ROTOR to the next place (behind the last one 0), and goes where it points to; in the SINK it is gone." */
+    /** "turns its ROTOR to the next place (behind the last one 0), and goes where it points to." */
     private static void walkerTurnsFirst() {
         Topplemoor one = path(1);
         same("a WALKER: the only place", one.walk(0), 1);
@@ -754,7 +754,7 @@ public final class TermBoundaries extends Checks {
         }
     }
 
-    /** "ROTORS are a TREE (also without SPOTS), if from each SPOT one comes to the SINK by going where they point to." */
+    /** "ROTORS are a TREE (also without SPOTS), if from each SPOT one comes to the SINK." */
     private static void rotorsAreATree() {
         Topplemoor moor = new Topplemoor();
         same("a TREE: without SPOTS", moor.many(13), 1);
@@ -808,7 +808,7 @@ public final class TermBoundaries extends Checks {
         same("COINS 0 at first: told later", moor.coins(1), 0);
     }
 
-    /** "To LEND: one gives to each NEIGHBOUR as many COINS as there are EDGES between; to BORROW: it gets so many from each." */
+    /** "one gives to each NEIGHBOUR as many COINS as there are EDGES between; to BORROW: it gets so many from each." */
     private static void lendAndBorrow() {
         Topplemoor moor = spots(4);
         moor.edge(0, 1, 3);
